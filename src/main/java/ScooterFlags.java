@@ -379,8 +379,7 @@ public final class ScooterFlags {
             for (int k = 0; k < open; k++) {
                 draft.kind[openFlags[k]] = (wetOnes >> k & 1) == 1 ? WET : PLAIN;
             }
-            int seconds = search.least(draft, MOST_SECONDS, false);
-            if (seconds != NONE && seconds <= n) {
+            if (search.least(draft, n, false) != NONE) {
                 within++;
             }
         }
@@ -851,7 +850,8 @@ public final class ScooterFlags {
             // Also the seconds behind the limit are gone through: nothing is left waiting for the next search.
             for (int second = 0; second < MOST_SECONDS; second++) {
                 int open = second % OPEN_SECONDS;
-                for (int k = 0; k < waitingCount[open]; k++) {
+                int count = waitingCount[open];
+                for (int k = 0; k < count; k++) {
                     int place = waiting[open * PLACES + k];
                     int pushes = waitingPushes[open * PLACES + place];
                     waitingPushes[open * PLACES + place] = NEVER;
