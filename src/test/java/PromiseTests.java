@@ -1,115 +1,10 @@
-/** For each promise of the document calls whose answers were worked out by hand. */
-public final class PromiseTests {
-    private static final int UNKNOWN = -1, OUTSIDE = -2, STATE = -3, FULL = -4, NONE = -9;
-    private static final int NULL = -11, CAST = -12, INDEX = -13, SIZE = -14;
-    private static final long LOST = Long.MIN_VALUE;
-    private static final int MIN = Integer.MIN_VALUE, MAX = Integer.MAX_VALUE;
-
-    private static int wrong = 0;
-    private static int promise = 0;
-
-    private static void due(String call, long got, long want) {
-        if (got != want) {
-            wrong++;
-            System.out.println("promise " + promise + ": " + call + " answered " + got + ", due is " + want);
-        }
+/** For each promise of the document runs of calls whose answers were worked out by hand. */
+final class PromiseTests extends Calls {
+    public static void main(String[] args) throws InterruptedException {
+        runAll(PromiseTests.class, 1, 29);
     }
 
-    /** Puts a text into a new row of a sheet. */
-    private static void write(ScooterFlags x, int k, int lane, String text) {
-        x.sheet(k, lane, text.length());
-        for (int i = 0; i < text.length(); i++) {
-            x.put(k, i, text.charAt(i));
-        }
-    }
-
-    private static int take(ScooterFlags x, String text) {
-        write(x, 0, 0, text);
-        return x.street(0, 0, 0, text.length());
-    }
-
-    private static ScooterFlags on(String text) {
-        ScooterFlags x = new ScooterFlags();
-        take(x, text);
-        return x;
-    }
-
-    private static int ride(ScooterFlags x, int what, int... acts) {
-        x.sheet(1, 1, acts.length);
-        for (int i = 0; i < acts.length; i++) {
-            x.put(1, i, acts[i]);
-        }
-        return x.way(1, 1, 0, acts.length, what);
-    }
-
-    /** All eight answers of a way that has no first wrong; the second one is NONE. */
-    private static void dueWay(ScooterFlags x, String acts, int seconds, int flag, int pace, int foot, int tired, int sole,
-        int pushes) {
-        int[] told = new int[acts.length()];
-        for (int i = 0; i < told.length; i++) {
-            told[i] = acts.charAt(i) - '0';
-        }
-        int[] want = {seconds, NONE, flag, pace, foot, tired, sole, pushes};
-        for (int what = 0; what <= 7; what++) {
-            due("way " + acts + " what " + what, ride(x, what, told), want[what]);
-        }
-    }
-
-    private static void dueWrong(ScooterFlags x, String acts, int first) {
-        int[] told = new int[acts.length()];
-        for (int i = 0; i < told.length; i++) {
-            told[i] = acts.charAt(i) - '0';
-        }
-        for (int what = 0; what <= 7; what++) {
-            due("way " + acts + " what " + what, ride(x, what, told), what == 1 ? first : -100 - first);
-        }
-    }
-
-    public static void main(String[] args) {
-        for (promise = 1; promise <= 29; promise++) {
-            test(promise);
-        }
-        System.out.println(wrong == 0 ? "all promises hold" : wrong + " answers are not as due");
-        if (wrong != 0) {
-            System.exit(1);
-        }
-    }
-
-    private static void test(int number) {
-        switch (number) {
-            case 1: newObject(); break;
-            case 2: street(); streetFaults(); streetMakesAnew(); break;
-            case 3: ofFlag(); break;
-            case 4: strong(); break;
-            case 5: knee(); break;
-            case 6: sole(); break;
-            case 7: grating(); break;
-            case 8: way(); wayRefused(); break;
-            case 9: quickest(); break;
-            case 10: lightest(); break;
-            case 11: cost(); break;
-            case 12: reading(); break;
-            case 13: back(); break;
-            case 14: smooth(); break;
-            case 15: kinds(); break;
-            case 16: strengths(); break;
-            case 17: knees(); break;
-            case 18: odds(); break;
-            case 19: sheet(); break;
-            case 20: lose(); break;
-            case 21: put(); break;
-            case 22: cell(); break;
-            case 23: copy(); break;
-            case 24: tell(); break;
-            case 25: rattle(); break;
-            case 26: as(); break;
-            case 27: trace(); break;
-            case 28: fault(); break;
-            default: many();
-        }
-    }
-
-    private static void newObject() {
+    static void promise01_newObject() {
         ScooterFlags x = new ScooterFlags();
         for (int what = 0; what <= 4; what++) {
             due("many " + what, x.many(what), 0);
@@ -125,7 +20,7 @@ public final class PromiseTests {
         due("ofFlag", x.ofFlag(0, 0), UNKNOWN);
     }
 
-    private static void street() {
+    static void promise02_street() {
         ScooterFlags x = new ScooterFlags();
         due("two flags", take(x, "s110f0h0"), 2);
         due("ten flags with gratings", take(x, "s432f4#h3#w2#f1#h0#w4#f3#h2#w1#f0#"), 10);
@@ -170,7 +65,7 @@ public final class PromiseTests {
         due("a code that the byte has cut", x.street(2, 0, 0, 2), -102);
     }
 
-    private static void streetFaults() {
+    static void promise02_streetFaults() {
         ScooterFlags x = new ScooterFlags();
         write(x, 0, 1, "s321f1h0");
         due("no sheet", x.street(-1, 9, -1, -1), UNKNOWN);
@@ -193,7 +88,7 @@ public final class PromiseTests {
         due("a street", x.street(0, 1, 0, 8), 2);
     }
 
-    private static void streetMakesAnew() {
+    static void promise02_streetMakesAnew() {
         ScooterFlags x = on("s321f1#h0");
         x.strong(1);
         x.knee(1);
@@ -220,7 +115,7 @@ public final class PromiseTests {
         due("grating", x.ofFlag(0, 3), 0);
     }
 
-    private static void ofFlag() {
+    static void promise03_ofFlag() {
         ScooterFlags x = on("s111f3h3#w3w4#h4f0");
         int[][] want = {{0, 3, 3, 0}, {1, 3, 4, 1}, {2, 3, 1, 0}, {2, 4, 2, 1}, {1, 4, 5, 0}, {0, 0, 0, 0}};
         for (int f = 0; f < want.length; f++) {
@@ -235,7 +130,7 @@ public final class PromiseTests {
         due("what", x.ofFlag(0, -1), OUTSIDE);
     }
 
-    private static void strong() {
+    static void promise04_strong() {
         ScooterFlags x = on("s322f0f0");
         due("strong 4", x.strong(4), 3);
         due("quickest", x.quickest(), 1);
@@ -249,7 +144,7 @@ public final class PromiseTests {
         due("outside ahead of no street", new ScooterFlags().strong(5), OUTSIDE);
     }
 
-    private static void knee() {
+    static void promise05_knee() {
         ScooterFlags x = on("s122f0f0");
         due("knee 1", x.knee(1), 2);
         due("quickest", x.quickest(), 4);
@@ -262,12 +157,12 @@ public final class PromiseTests {
         due("outside ahead of no street", new ScooterFlags().knee(0), OUTSIDE);
     }
 
-    private static void sole() {
+    static void promise06_sole() {
         ScooterFlags x = on("s421f0f0f0f0f0");
         due("sole 2", x.sole(2), 1);
-        due("sole left", ride(x, 6, 0), 2);
+        due("sole left", ride(x, "0", 6), 2);
         due("sole 0", x.sole(0), 2);
-        due("no brake", ride(x, 1, 0, 3), 1);
+        due("no brake", ride(x, "03", 1), 1);
         due("sole -1", x.sole(-1), OUTSIDE);
         due("sole 3", x.sole(3), OUTSIDE);
         due("many", x.many(3), 0);
@@ -275,13 +170,13 @@ public final class PromiseTests {
         due("outside ahead of no street", new ScooterFlags().sole(3), OUTSIDE);
     }
 
-    private static void grating() {
+    static void promise07_grating() {
         ScooterFlags x = on("s411f0f0f0");
         due("flag 2, no grating", x.grating(2, false), 0);
-        due("goes over it", ride(x, 3, 0), 4);
+        due("goes over it", ride(x, "0", 3), 4);
         due("a grating", x.grating(2, true), 1);
         due("a grating again", x.grating(2, true), 0);
-        due("stopped by it", ride(x, 3, 0), 0);
+        due("stopped by it", ride(x, "0", 3), 0);
         due("none", x.grating(2, false), 1);
         due("ofFlag", x.ofFlag(2, 3), 0);
         due("no flag", x.grating(3, true), UNKNOWN);
@@ -289,7 +184,7 @@ public final class PromiseTests {
         due("no street", new ScooterFlags().grating(0, true), UNKNOWN);
     }
 
-    private static void way() {
+    static void promise08_way() {
         ScooterFlags x = on("s321f1h0#f2w4");
         dueWay(x, "", 0, 0, 0, 0, 0, 1, 0);
         dueWay(x, "0", 1, 1, 2, 0, 1, 1, 1);
@@ -335,7 +230,7 @@ public final class PromiseTests {
         dueWrong(x, "033", 2);
     }
 
-    private static void wayRefused() {
+    static void promise08_wayRefused() {
         ScooterFlags x = new ScooterFlags();
         x.sheet(0, 2, 30);
         due("no street", x.way(0, 2, 0, 0, 0), STATE);
@@ -368,7 +263,7 @@ public final class PromiseTests {
         due("24 acts", x.way(0, 2, 0, 24, 2), -101);
     }
 
-    private static void quickest() {
+    static void promise09_quickest() {
         due("no street", new ScooterFlags().quickest(), STATE);
         due("one push", on("s410f0f0").quickest(), 1);
         due("push, change, push, glide", on("s110f0f0").quickest(), 4);
@@ -383,7 +278,7 @@ public final class PromiseTests {
         due("asked again", x.quickest(), 4);
     }
 
-    private static void lightest() {
+    static void promise10_lightest() {
         due("n", new ScooterFlags().lightest(-1), OUTSIDE);
         due("n", new ScooterFlags().lightest(25), OUTSIDE);
         due("no street", new ScooterFlags().lightest(24), STATE);
@@ -403,7 +298,7 @@ public final class PromiseTests {
         due("carries", x.lightest(18), 0);
     }
 
-    private static void cost() {
+    static void promise11_cost() {
         due("no street", new ScooterFlags().cost(0), UNKNOWN);
         ScooterFlags x = on("s411f4f0");
         due("cost 0", x.cost(0), 3);
@@ -421,7 +316,7 @@ public final class PromiseTests {
         due("the grating is as it was", x.ofFlag(0, 3), 1);
     }
 
-    private static void reading() {
+    static void promise12_reading() {
         due("v", new ScooterFlags().reading(25), OUTSIDE);
         due("no street", new ScooterFlags().reading(24), STATE);
         ScooterFlags x = on("s411f4f0");
@@ -437,7 +332,7 @@ public final class PromiseTests {
         due("many", x.many(4), 8);
     }
 
-    private static void back() {
+    static void promise13_back() {
         ScooterFlags x = new ScooterFlags();
         due("no street", x.back(0), 0);
         due("no street", x.back(1), OUTSIDE);
@@ -457,7 +352,7 @@ public final class PromiseTests {
         due("many", x.many(4), 0);
     }
 
-    private static void smooth() {
+    static void promise14_smooth() {
         due("no street", new ScooterFlags().smooth(0), UNKNOWN);
         ScooterFlags x = on("s411f4f0");
         due("no readings", x.smooth(0), 31);
@@ -479,7 +374,7 @@ public final class PromiseTests {
         due("none was there", x.smooth(0), 30);
     }
 
-    private static void kinds() {
+    static void promise15_kinds() {
         due("no street", new ScooterFlags().kinds(0), UNKNOWN);
         ScooterFlags x = on("s411f4f0");
         due("no readings", x.kinds(1), 7);
@@ -496,7 +391,7 @@ public final class PromiseTests {
         due("nothing is changed", x.ofFlag(0, 0), 0);
     }
 
-    private static void strengths() {
+    static void promise16_strengths() {
         due("no street", new ScooterFlags().strengths(), STATE);
         ScooterFlags x = on("s411f4f0");
         due("no readings", x.strengths(), 30);
@@ -512,7 +407,7 @@ public final class PromiseTests {
         due("nothing is changed", x.many(1), 4);
     }
 
-    private static void knees() {
+    static void promise17_knees() {
         due("no street", new ScooterFlags().knees(), STATE);
         ScooterFlags x = on("s111f0f0");
         due("no readings", x.knees(), 14);
@@ -529,7 +424,7 @@ public final class PromiseTests {
         due("lower of odds " + n, x.odds(n, 1), lower);
     }
 
-    private static void odds() {
+    static void promise18_odds() {
         due("no street", new ScooterFlags().odds(0, 0), LOST);
         ScooterFlags x = on("s411f4f4");
         dueOdds(x, 0, 0, 1);
@@ -560,7 +455,7 @@ public final class PromiseTests {
         due("odds name no faults", x.fault(), 0);
     }
 
-    private static void sheet() {
+    static void promise19_sheet() {
         ScooterFlags x = new ScooterFlags();
         due("no sheet", x.sheet(4, 3, 61), UNKNOWN);
         due("no sheet", x.sheet(-1, 0, 0), UNKNOWN);
@@ -585,7 +480,7 @@ public final class PromiseTests {
         due("but is there", x.lose(3), 1);
     }
 
-    private static void lose() {
+    static void promise20_lose() {
         ScooterFlags x = new ScooterFlags();
         due("no sheet", x.lose(-1), UNKNOWN);
         due("no sheet", x.lose(4), UNKNOWN);
@@ -598,7 +493,7 @@ public final class PromiseTests {
         due("it names no faults", x.fault(), 1);
     }
 
-    private static void put() {
+    static void promise21_put() {
         ScooterFlags x = new ScooterFlags();
         due("no sheet", x.put(-1, 0, 0), UNKNOWN);
         due("no sheet", x.put(4, 0, 0), UNKNOWN);
@@ -624,7 +519,7 @@ public final class PromiseTests {
         due("the cell beside it", x.cell(2, 0, 2), 0);
     }
 
-    private static void cell() {
+    static void promise22_cell() {
         ScooterFlags x = new ScooterFlags();
         x.sheet(0, 1, 2);
         x.put(0, 0, -5);
@@ -652,7 +547,7 @@ public final class PromiseTests {
         }
     }
 
-    private static void copy() {
+    static void promise23_copy() {
         ScooterFlags x = new ScooterFlags();
         due("no sheet", x.copy(-1, 0, 0, 0, 0), UNKNOWN);
         due("no sheet", x.copy(0, 0, 4, 0, 0), UNKNOWN);
@@ -680,7 +575,7 @@ public final class PromiseTests {
         dueCells(x, 0, 1, 1, 2, 3, 3);
     }
 
-    private static void tell() {
+    static void promise24_tell() {
         ScooterFlags x = on("s111f3h2w4");
         due("a flag", x.tell(0), 3);
         due("trace", x.trace(), 1);
@@ -694,7 +589,7 @@ public final class PromiseTests {
         due("trace", x.trace(), ((3 * 31 + 2) * 31 + 1) * 31 + 1);
     }
 
-    private static void rattle() {
+    static void promise25_rattle() {
         ScooterFlags x = on("s111f3h2w4f0");
         due("the third place of the list", x.rattle(3), 3);
         due("trace", x.trace(), 4);
@@ -707,7 +602,7 @@ public final class PromiseTests {
         due("trace", x.trace(), (4 * 31 + 4) * 31 + 5);
     }
 
-    private static void as() {
+    static void promise26_as() {
         ScooterFlags x = on("s111f3h2w4");
         for (int f = 0; f <= 2; f++) {
             for (int kind = 0; kind <= 2; kind++) {
@@ -724,7 +619,7 @@ public final class PromiseTests {
         due("no street", new ScooterFlags().as(0, 0), UNKNOWN);
     }
 
-    private static void trace() {
+    static void promise27_trace() {
         ScooterFlags x = on("s111w0f0");
         int want = 0;
         for (int k = 0; k < 20; k++) {
@@ -742,7 +637,7 @@ public final class PromiseTests {
         due("a new street keeps it", x.trace(), want);
     }
 
-    private static void fault() {
+    static void promise28_fault() {
         ScooterFlags x = new ScooterFlags();
         due("at first", x.fault(), 0);
         x.put(0, 0, 0);
@@ -775,7 +670,7 @@ public final class PromiseTests {
         due("of street by a wrong text", x.fault(), 0);
     }
 
-    private static void many() {
+    static void promise29_many() {
         ScooterFlags x = on("s432f0f0f0");
         x.reading(3);
         int[] want = {3, 4, 3, 2, 1};
