@@ -29,6 +29,11 @@ public final class FaceTests {
         "\\bsynchronized\\b", "\\bpackage\\b", "->", "::", "\\bstatic\\s*\\{", "Exact\\b", "\\.toString\\(\\)\\s*\\+",
         "\\bSystem\\.(?!arraycopy\\b)", "\\bThread\\b", "\\bRandom\\b", "\\bObject\\b", "\\bvar\\b", "\\bhashCode\\b",
         "\\bimport (?!java\\.util\\.(Arrays|ArrayList|List|Iterator);)"};
+    private static final Set<String> LENT = Set.of("Math.max", "Math.min", "Math.abs", "Math.floorDiv", "Math.floorMod",
+        "Integer.compare", "Integer.max", "Integer.min", "Integer.bitCount", "Long.compare", "Long.max", "Long.min",
+        "Long.bitCount", "System.arraycopy", "Arrays.copyOf", "Arrays.copyOfRange", "Arrays.fill", "List.of");
+    private static final Set<Class<?>> STATIC_TYPES = Set.of(int.class, long.class, boolean.class, char.class,
+        String.class, int[].class, long[].class, char[].class, byte[].class);
     private static final int LONGEST_METHOD = 60, MOST_CLASSES = 12, MOST_FIELDS = 20, MOST_PARAMETERS = 7;
 
     private static int wrong = 0;
@@ -43,6 +48,7 @@ public final class FaceTests {
     public static void main(String[] args) throws Exception {
         checkFace();
         checkConstants();
+        checkStatics(ScooterFlags.class);
         for (Class<?> inside : ScooterFlags.class.getDeclaredClasses()) {
             checkInside(inside);
         }
@@ -114,11 +120,18 @@ public final class FaceTests {
         check(!Modifier.isPublic(inside.getModifiers()), "public: " + inside.getName());
         long fields = Arrays.stream(inside.getDeclaredFields()).filter(f -> !Modifier.isStatic(f.getModifiers())).count();
         check(fields <= MOST_FIELDS, "too many fields: " + inside.getName());
-        for (Field f : inside.getDeclaredFields()) {
-            check(!Modifier.isStatic(f.getModifiers()) || Modifier.isFinal(f.getModifiers()), "not final: " + f);
-        }
+        checkStatics(inside);
         for (Method m : inside.getDeclaredMethods()) {
             check(m.getParameterCount() <= MOST_PARAMETERS, "too many parameters: " + m);
+        }
+    }
+
+    private static void checkStatics(Class<?> told) {
+        for (Field f : told.getDeclaredFields()) {
+            if (Modifier.isStatic(f.getModifiers()) && !f.isSynthetic()) {
+                check(Modifier.isFinal(f.getModifiers()), "static and not final: " + f);
+                check(STATIC_TYPES.contains(f.getType()) || told.isEnum(), "static, of another type: " + f);
+            }
         }
     }
 
@@ -127,6 +140,10 @@ public final class FaceTests {
         for (String word : RULED_OUT) {
             Matcher m = Pattern.compile(word).matcher(code);
             check(!m.find(), "ruled out: " + word);
+        }
+        Matcher lent = Pattern.compile("\\b[A-Z]\\w*\\.[a-z]\\w*(?=\\()").matcher(code);
+        while (lent.find()) {
+            check(LENT.contains(lent.group()), "not lent by the library: " + lent.group());
         }
         check(source.chars().allMatch(c -> c == '\n' || c >= 32 && c < 127), "signs that aren't plain");
         int from = -1;
